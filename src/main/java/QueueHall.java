@@ -86,15 +86,11 @@ public final class QueueHall {
     }
 
     public int sieve(int step, int rest) {
-        return step < 1 ? REFUSED : ringRow.takeRest(step, rest);
+        return ringRow.takeRest(step, rest);
     }
 
     public int roll(int n) {
-        if (n < 0 || n > MOST_TURNS) {
-            return REFUSED;
-        }
-        ringRow.turn(n);
-        return ringRow.count;
+        return ringRow.turn(n);
     }
 
     public int insert(int place, int number) {
@@ -319,7 +315,7 @@ public final class QueueHall {
 
         private int takeRest(int step, int rest) {
             if (step < 1) {
-                return 0;
+                return REFUSED;
             }
             int kept = 0;
             for (int i = 0; i < count; i++) {
@@ -333,14 +329,17 @@ public final class QueueHall {
             return gone;
         }
 
-        private void turn(int n) {
-            if (count == 0 || n < 0 || n > MOST_TURNS) {
-                return;
+        private int turn(int n) {
+            if (n < 0 || n > MOST_TURNS) {
+                return REFUSED;
             }
-            // After count turns the row is as it was.
-            int moved = n % count;
-            System.arraycopy(numbers, 0, numbers, count, moved);
-            System.arraycopy(numbers, moved, numbers, 0, count);
+            if (count > 0) {
+                // After count turns the row is as it was.
+                int moved = n % count;
+                System.arraycopy(numbers, 0, numbers, count, moved);
+                System.arraycopy(numbers, moved, numbers, 0, count);
+            }
+            return count;
         }
 
         private boolean takeAll(Row other, int place) {

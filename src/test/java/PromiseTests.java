@@ -117,6 +117,7 @@ public final class PromiseTests {
         due("call(false)", x.call(false), -2);
         due("size(0) after call(false)", x.size(0), 3);
         due("enter(-9)", x.enter(-9), 4);
+        due("call(true) of another least", x.call(true), -9);
         hallIs("call", x, -9, -2, 3, 7);
     }
 
@@ -201,6 +202,10 @@ public final class PromiseTests {
         x.point(0);
         due("clear(2) of an empty one", x.clear(2), 0);
         due("finger() after clear(2) of an empty one", x.finger(), 0);
+        x = chainOf(1);
+        x.point(0);
+        due("clear(2) of one", x.clear(2), 1);
+        due("finger() after clear(2) of one", x.finger(), -1);
     }
 
     private static void join() {
@@ -574,6 +579,10 @@ public final class PromiseTests {
         x.point(0);
         due("hand() of an empty one", x.hand(), 5);
         due("finger() after hand of an empty one", x.finger(), 0);
+        x = chainOf(1);
+        x.point(0);
+        due("hand() of one", x.hand(), 1);
+        due("finger() after hand of one", x.finger(), -1);
     }
 
     public static void main(String[] args) {
