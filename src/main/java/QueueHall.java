@@ -78,7 +78,6 @@ public final class QueueHall {
     }
 
     public long ring(int place, boolean back) {
-        // The place is looked at before it is turned round, as the turning could wrap.
         if (!ringRow.hasPlace(place)) {
             return NOTHING;
         }
